@@ -203,19 +203,16 @@ public final class IcedTooSoon {
     }
 
     public int run(int n, int what) {
-        boolean ofOne = house.hasGuest(oneOf(what));
-        if (isOutside(n, 0, 40) || isOutside(what, 0, 1) && !ofOne) {
+        int p = oneOf(what);
+        if (isOutside(n, 0, 40) || isOutside(what, 0, 1) && !house.hasGuest(p)) {
             return -100000;
         }
         think();
         pass(n);
-        if (what == 0) {
-            return thought.glassesThere();
+        if (house.hasGuest(p)) {
+            return what < 20 ? thought.mood[p] : thought.cold[p];
         }
-        if (what == 1 || !ofOne) {
-            return thought.moodOfAll();
-        }
-        return what < 20 ? thought.mood[oneOf(what)] : thought.cold[oneOf(what)];
+        return what == 0 ? thought.glassesThere() : thought.moodOfAll();
     }
 
     public int goesOff(int g) {
@@ -791,17 +788,13 @@ public final class IcedTooSoon {
         }
 
         int glassesThere() {
-            return Integer.bitCount(allGlasses());
-        }
-
-        int allGlasses() {
-            int bits = 0;
+            int many = 0;
             for (int g = 0; g < GLASSES; g++) {
                 if (hasGlass(g)) {
-                    bits |= 1 << g;
+                    many++;
                 }
             }
-            return bits;
+            return many;
         }
 
         int glassesOf(int p) {

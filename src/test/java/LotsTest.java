@@ -42,6 +42,15 @@ public final class LotsTest {
                 Due.is("31: glasses by " + seed + " of " + guests, glasses, x.count(1));
             }
         }
+        for (int seed = 0; seed < 200; seed++) {
+            IcedTooSoon x = Due.under("melts 2;feels weight+cold;chills ice;");
+            for (int p = 0; p < 6; p++) {
+                x.guest(11 * p, 0);
+            }
+            int mood = x.drawn(seed, 0);
+            play(x, seed);
+            Due.is("31: mood by " + seed, mood, x.run(0, 1));
+        }
         IcedTooSoon y = Due.under("melts 0;feels 0;chills 0;");
         for (int p = 0; p < 6; p++) {
             y.guest(0, 0);
@@ -78,6 +87,8 @@ public final class LotsTest {
         Due.is("32: 1 more", x.odds(9, 1, one + 1, 0), 0);
         Due.is("32: 0 by 1", x.odds(9, 40, 999, 1), 1);
         Due.is("32: 1 by 1", x.odds(9, 40, -999, 1), 1);
+        Due.is("32: seed 0", x.odds(0, 1, -999, 0), 1);
+        Due.is("32: seed 99999", x.odds(99999, 1, -999, 0), 1);
         Due.is("32: seed -1", x.odds(-1, 1, 0, 0), IcedTooSoon.NO);
         Due.is("32: seed 100000", x.odds(100000, 1, 0, 0), IcedTooSoon.NO);
         Due.is("32: seeds 0", x.odds(0, 0, 0, 0), IcedTooSoon.NO);

@@ -70,6 +70,9 @@ public final class TextTest {
         fault("melts !00001" + REST);
         fault("melts !icecold" + REST);
         fault("melts !ices" + REST);
+        fault("melts !icez" + REST);
+        fault("melts !nay" + REST);
+        fault("melts !das" + REST);
         fault("melts ice !cold" + REST);
         fault("melts 1 !2" + REST);
         fault("melts 1!ice" + REST);
@@ -207,6 +210,10 @@ public final class TextTest {
         value("- (4096 * 4096 * 128) < 0", 1);
         value("4096 * 4096 * 256 + 7", 7);
         value("1 or 1+(2*(1<(0 or 1)))", 1);
+        String each = "0or 1and 0<1+2*(";
+        value(each + each + each + each + each + "0or 1and 0<1+2*7)))))", 1);
+        each = "more+2*(";
+        value(each + each + "1+2*(1+2*(1+2*(1<1+1*1)))))", 81);
         value("0 or 0 and 0 < 0 + 1 * (0 or 1 and 0 < 0 + 1 * (0 or 1 and 0 < 1 + 1 * (2)))", 0);
         value("1 and 0 < 3 * (0 or 1 and 1 < 1 + 1 * (0 or 1 and 1 < 2 + 3 * (0 or 1 and 1 < 2)))", 1);
     }
