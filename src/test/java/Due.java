@@ -1,6 +1,8 @@
 /** What the tests share: answers that are due, and texts fed to the tape. */
 final class Due {
     static final String ORDINARY = "melts 10 ; feels weight ; chills 5 ;";
+    /** Mutants needs no more than the first wrong answer. */
+    private static final boolean AT_ONCE = Boolean.getBoolean("due.at.once");
     private static int asked = 0;
     private static int wrong = 0;
 
@@ -12,6 +14,9 @@ final class Due {
         if (got != want) {
             wrong++;
             System.out.println(call + " answered " + got + ", due is " + want);
+            if (AT_ONCE) {
+                System.exit(1);
+            }
         }
     }
 
