@@ -98,7 +98,7 @@ public final class Mutants {
 
     private static Set<String> others(String line) {
         Set<String> all = new LinkedHashSet<>();
-        swap(all, line, "(?<![\\w.\"'])\\d+(?![\\w\"'])", true);
+        numbers(all, line);
         String[][] pairs = {{" < ", " <= "}, {" <= ", " < "}, {" > ", " >= "}, {" >= ", " > "}, {" == ", " != "}, {" != ", " == "},
             {" && ", " || "}, {" || ", " && "}, {" + ", " - "}, {" - ", " + "}, {" * ", " + "}, {" / ", " * "}, {" % ", " / "},
             {"Math.min", "Math.max"}, {"Math.max", "Math.min"}, {"++", "--"}, {"--", "++"}, {" |= ", " = "}, {" += ", " -= "},
@@ -120,8 +120,9 @@ public final class Mutants {
         return all;
     }
 
-    private static void swap(Set<String> all, String line, String number, boolean up) {
-        Matcher m = Pattern.compile(number).matcher(line);
+    /** Each number, 1 more and 1 less. */
+    private static void numbers(Set<String> all, String line) {
+        Matcher m = Pattern.compile("(?<![\\w.\"'])\\d+(?![\\w\"'])").matcher(line);
         while (m.find()) {
             long v = Long.parseLong(m.group());
             for (long other : new long[] {v + 1, v - 1}) {

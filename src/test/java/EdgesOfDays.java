@@ -195,6 +195,8 @@ final class EdgesOfDays {
         Run.of("guest(0, 99)", "guest(0, 98)").asks("falls(40, 99)", 2);
         // now, though it is better behind each day
         Run.of("guest(0, -5)", "order(0, 50, 1)").asks("falls(0, 0)", 1).asks("falls(1, 0)", 1).asks("falls(40, 0)", 1);
+        // behind a day, not in its midst
+        Run.of("guest(0, 0)", "order(0, -50, 1)", "order(0, 50, 1)").asks("falls(1, 0)", 0).asks("falls(40, 0)", 0);
         new Run().asks("falls(0, 99)", 0).asks("falls(40, 99)", 0);
 
         Doc.says(19, "BAD.");

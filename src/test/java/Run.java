@@ -15,7 +15,7 @@ final class Run {
     private final List<String> calls = new ArrayList<>();
     /** What is seen behind these calls; null while nobody has looked. */
     private List<String> seen = null;
-    private Live live = new Live();
+    private final Live live = new Live();
 
     static {
         for (Method m : IcedTooSoon.class.getDeclaredMethods()) {
