@@ -208,7 +208,9 @@ public final class IcedTooSoon {
             return -100000;
         }
         think();
-        pass(n);
+        for (int i = 0; i < n; i++) {
+            thought.passDay();
+        }
         if (house.hasGuest(p)) {
             return what < 20 ? thought.mood[p] : thought.cold[p];
         }
@@ -639,12 +641,6 @@ public final class IcedTooSoon {
         thought.become(house);
     }
 
-    private void pass(int n) {
-        for (int i = 0; i < n; i++) {
-            thought.passDay();
-        }
-    }
-
     private int nextOff(int glasses) {
         think();
         for (int i = 0; i < FARTHEST; i++) {
@@ -663,7 +659,9 @@ public final class IcedTooSoon {
                 thought.addIce(g, much);
             }
         }
-        pass(n);
+        for (int i = 0; i < n; i++) {
+            thought.passDay();
+        }
         return thought.moodOfAll();
     }
 
@@ -689,7 +687,9 @@ public final class IcedTooSoon {
         if (thought.hasGlass(g)) {
             thought.take(g);
         }
-        pass(n);
+        for (int i = 0; i < n; i++) {
+            thought.passDay();
+        }
         return thought.moodOfAll();
     }
 

@@ -6,11 +6,11 @@ import java.util.TreeMap;
 
 /**
  * The document's own words: each test of an edge names the sentence that it is for, and at the end
- * every word of the promises and the terms must have been named by one.
+ * every word of it must have been named by one.
  */
 final class Doc {
-    /** The section "Terms" stands as promise 0. */
-    static final int TERMS = 0;
+    /** Sections that aren't promises stand as promise 0 and below. */
+    static final int TERMS = 0, WHAT_IT_IS = -1, FACE = -2, NOT_PROMISED = -3;
     private static final int PROMISES = 39;
     private static final Path PAGE = Path.of("../shared/DOC.md");
     private static final Map<Integer, String> SECTIONS = new TreeMap<>();
@@ -26,7 +26,7 @@ final class Doc {
 
     /** From here on, the answers are due by these words of a promise. */
     static void says(int promise, String words) {
-        now = (promise == TERMS ? "Terms" : "promise " + promise) + " [" + words + "]: ";
+        now = nameOf(promise) + " [" + words + "]: ";
         if (!isHere()) {
             return;
         }
@@ -50,15 +50,25 @@ final class Doc {
             System.out.println(PAGE + " isn't here: which of its words no test names stays open");
             return;
         }
-        for (int promise = TERMS; promise <= PROMISES; promise++) {
+        for (int promise = NOT_PROMISED; promise <= PROMISES; promise++) {
             String section = SECTIONS.getOrDefault(promise, "");
-            Due.is("promise " + promise + " is in the document", section.isEmpty() ? 0 : 1, 1);
+            Due.is(nameOf(promise) + " is in the document", section.isEmpty() ? 0 : 1, 1);
             StringBuilder left = new StringBuilder();
             for (int i = 0; i < section.length(); i++) {
                 left.append(NAMED.get(promise)[i] ? ' ' : section.charAt(i));
             }
             String words = left.toString().replaceAll("\\s+", " ").strip();
-            Due.is("promise " + promise + ": no test names [" + words + "]", words.length(), 0);
+            Due.is(nameOf(promise) + ": no test names [" + words + "]", words.length(), 0);
+        }
+    }
+
+    private static String nameOf(int promise) {
+        switch (promise) {
+            case TERMS: return "Terms";
+            case WHAT_IT_IS: return "What it is";
+            case FACE: return "The public face";
+            case NOT_PROMISED: return "Not promised";
+            default: return "promise " + promise;
         }
     }
 
@@ -77,9 +87,12 @@ final class Doc {
         for (String part : page.split("\n## ")) {
             String head = part.substring(0, Math.max(0, part.indexOf('\n')));
             String body = part.substring(head.length());
-            if (head.equals("Terms")) {
-                keep(TERMS, body.replaceAll("```\\w*", "").replaceAll("Ahead of the calls [^\n]*", ""));
-            } else if (head.matches("Promise \\d+: .*")) {
+            for (int promise = NOT_PROMISED; promise <= TERMS; promise++) {
+                if (head.equals(nameOf(promise))) {
+                    keep(promise, body.replaceAll("```\\w*", "").replaceAll("Ahead of the calls [^\n]*", ""));
+                }
+            }
+            if (head.matches("Promise \\d+: .*")) {
                 keep(Integer.parseInt(head.replaceAll("\\D", "")), body.replaceFirst("`[^`]*`: ", ""));
             }
         }

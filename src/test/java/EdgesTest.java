@@ -9,6 +9,7 @@ public final class EdgesTest {
         EdgesOfToldDays.all();
         EdgesOfLots.all();
         EdgesOfHost.all();
+        EdgesOfWhole.all();
         Doc.audit();
         Due.end();
     }

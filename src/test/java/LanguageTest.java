@@ -5,12 +5,16 @@ import java.lang.reflect.Method;
 import java.lang.reflect.Modifier;
 import java.nio.file.Files;
 import java.nio.file.Path;
+import java.util.ArrayList;
 import java.util.Arrays;
 import java.util.List;
+import java.util.Map;
 import java.util.Set;
+import java.util.TreeMap;
 import java.util.TreeSet;
 import java.util.regex.Matcher;
 import java.util.regex.Pattern;
+import java.util.stream.Stream;
 
 /** The face as the document writes it, and the rules of LANGUAGE.md that can be seen in the source. */
 public final class LanguageTest {
@@ -157,6 +161,68 @@ public final class LanguageTest {
             }
         }
         methodsAreShort(List.of(text.split("\n")));
+        callsAreNotDeep(code);
+    }
+
+    /** The longest chains of calls; the library's count, too, and what calls itself counts once. */
+    private static void callsAreNotDeep(String code) {
+        Map<String, Set<String>> calls = callsOf(code);
+        holds("rule 11: the calls of all methods of the face are known", calls.keySet().containsAll(
+                Stream.of(FACE.strip().split("\n")).map(m -> m.replaceAll("\\w+ (\\w+).*", "$1")).toList()));
+        for (String method : calls.keySet()) {
+            List<String> chain = longestChain(method, calls, new ArrayList<>());
+            holds("rule 11: calls go at most eight deep, but " + chain, chain.size() <= 8);
+        }
+    }
+
+    /** Methods of one name stand as one. */
+    private static Map<String, Set<String>> callsOf(String code) {
+        Pattern head = Pattern.compile(" {4}(?: {4})?[\\w\\[\\] ]*?(\\w+)\\([^()]*\\) \\{");
+        Pattern call = Pattern.compile("\\b(?!if\\b|for\\b|while\\b|switch\\b|return\\b)(\\w+)\\(");
+        Map<String, Set<String>> calls = new TreeMap<>();
+        String method = "";
+        for (String line : code.split("\n")) {
+            Matcher begins = head.matcher(line);
+            if (begins.matches() && !line.matches(" +(if|for|while|switch) .*")) {
+                method = begins.group(1);
+                calls.putIfAbsent(method, new TreeSet<>());
+                continue;
+            }
+            Matcher found = call.matcher(line);
+            while (found.find()) {
+                calls.computeIfAbsent(method, m -> new TreeSet<>()).add(found.group(1));
+            }
+        }
+        return calls;
+    }
+
+    private static List<String> longestChain(String method, Map<String, Set<String>> calls, List<String> open) {
+        open.add(method);
+        List<String> longest = List.of();
+        for (String next : calls.getOrDefault(method, Set.of())) {
+            if (!open.contains(next)) {
+                List<String> chain = longestChain(next, calls, open);
+                longest = chain.size() > longest.size() ? chain : longest;
+            }
+        }
+        open.remove(open.size() - 1);
+        List<String> whole = new ArrayList<>(longest);
+        if (whole.isEmpty() || !reaches(method, whole.get(0), calls) || !reaches(whole.get(0), method, calls)) {
+            whole.add(0, method);
+        }
+        return whole;
+    }
+
+    private static boolean reaches(String from, String to, Map<String, Set<String>> calls) {
+        Set<String> all = new TreeSet<>(calls.getOrDefault(from, Set.of()));
+        int had = 0;
+        while (had != all.size()) {
+            had = all.size();
+            for (String next : List.copyOf(all)) {
+                all.addAll(calls.getOrDefault(next, Set.of()));
+            }
+        }
+        return all.contains(to);
     }
 
     private static void methodsAreShort(List<String> lines) {
